@@ -1076,7 +1076,7 @@ public final class LyingDials {
             return found;
         }
 
-        /** Where a row of turns begins it goes up by one, behind its end down again: the height is how many there are. */
+        /** Up by one where a row of turns begins, down again behind its end: the height is how many tell alike. */
         private void addStep(int at, int up) {
             int place = at + REACH;
             if (place >= 0 && place < steps.length) {

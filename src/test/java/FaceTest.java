@@ -127,7 +127,8 @@ public final class FaceTest {
                 depth = line.startsWith("        ") ? 8 : 4;
             }
             if (begun >= 0) {
-                Kit.same("line " + (i + 1) + " makes nothing", true, !line.contains("new ") || line.contains("throw new"));
+                boolean makes = line.contains("new ") && !line.contains("throw new");
+                Kit.same("line " + (i + 1) + " makes an object", false, makes);
             }
             if (begun >= 0 && line.equals(" ".repeat(depth) + "}")) {
                 Kit.same(lines[begun].trim() + " is short", true, i - begun <= 60);
