@@ -133,7 +133,7 @@ public final class PromiseTest {
         for (int i = 0; i < 3; i++) {
             Kit.port(x, full);
             Kit.port(x, full + "sun");
-            Kit.due("a port", 0, () -> Kit.port(x, "dial bowl 0 0 0;cloud 1 0 9;"));
+            Kit.due("a port", 0, () -> Kit.port(x, "dial bowl 0 0 0;cloud 1 0 900;"));
             Kit.due("dials", 1, () -> x.count(0));
             Kit.due("swing", 120, () -> x.count(1));
             Kit.due("clouds", 1, () -> x.count(2));
@@ -505,6 +505,9 @@ public final class PromiseTest {
         x.read(1, 0, 920, 1020);
         x.read(1, 0, 1020, 1140);
         dueFaults(x, 1, 1, 60, 60, 20, 20);
+        Kit.port(x, "swing 0;dial cannon 0 0 0;");
+        x.read(0, 0, 730, 740);
+        dueFaults(x, 0, 0);
     }
 
     private static void next() {
@@ -591,10 +594,10 @@ public final class PromiseTest {
         x.forget();
         x.see(3, 719);
         dueMinutes(x, 15, 1, 1439, 1439);
-        farMinutes(x);
         Kit.none("no day", () -> x.minutes(365, 0));
         Kit.none("no what", () -> x.minutes(0, 3));
         Kit.none("no what", () -> x.minutes(0, -1));
+        farMinutes(x);
     }
 
     private static void farMinutes(LyingDials x) {
@@ -604,6 +607,12 @@ public final class PromiseTest {
             x.forget();
             x.see(r[0], r[1]);
             dueMinutes(x, r[2], 1, r[3], r[3]);
+        }
+        Kit.port(x, "swing 240;dial bowl 0 0 0;");
+        for (int minute : new int[] {120, 121, 1319, 1320}) {
+            x.forget();
+            x.see(0, minute);
+            dueMinutes(x, 172, 1, minute, minute);
         }
     }
 
@@ -890,11 +899,11 @@ public final class PromiseTest {
         Kit.due("and again", 2, () -> x.count(4));
         Kit.port(x, "");
         Kit.same("gone with a port", false, x.restore());
-        Kit.port(x, "swing 0;dial bowl 0 0 0;dial bowl 0 0 0;");
+        Kit.port(x, "swing 0;dial bowl 0 0 0;dial bowl 0 0 0;limps 0 7 0 0 0 0 0 0 0 0 0 0;");
         x.read(0, 3, 700, 705);
         x.image();
         x.unread();
-        x.read(1, 4, 100, 200);
+        x.read(1, 40, 600, 200);
         Kit.same("a reading", true, x.restore());
         Kit.due("of its dial", 5, () -> x.faults(0, 1));
         Kit.due("of no other", 4961, () -> x.faults(1, 0));

@@ -13,6 +13,7 @@ public final class TextFaultTest {
         goodLaws();
         badLaws();
         deepLaws();
+        deepestParts();
         cutTexts();
         Kit.end();
     }
@@ -87,7 +88,8 @@ public final class TextFaultTest {
 
     private static void goodLaws() {
         String[] good = {"dial 0", " dial\n0 ", "dial2", "dial 0002", "middle(0)", "middle ( 2 , 1 , 0 )",
-            "first(dial 0)", "first(dial0,dial1,dial2)", "mean(dial 0,dial 0)", "late 720 dial 0", "late-720dial 0", "late - 5 dial 0",
+            "first(dial 0)", "first(dial0,dial1,dial2)", "mean(dial 0,dial 0)", "late 720 dial 0",
+            "late-720dial 0", "late - 5 dial 0",
             "if month 0 then dial 0 else dial 1 end", "if month 11 then dial 0 else dial 1 end",
             "if not not dark dial 0then dial 0else dial 1end", "if before(dial 0,dial 1)then dial 0 else dial 1 end"};
         for (String text : good) {
@@ -98,7 +100,8 @@ public final class TextFaultTest {
 
     private static void badLaws() {
         Object[][] bad = {{"", 1, 0}, {"  ", 1, 2}, {"5", 1, 0}, {"12345", 1, 0}, {"(", 1, 0}, {";", 1, 0},
-            {"Dial 0", 1, 0}, {"sun", 4, 0}, {"then", 4, 0}, {"month 5", 4, 0}, {"not", 4, 0}, {"dark dial 0", 4, 0}, {"dials 0", 4, 0},
+            {"Dial 0", 1, 0}, {"sun", 4, 0}, {"then", 4, 0}, {"month 5", 4, 0}, {"not", 4, 0}, {"dark dial 0", 4, 0},
+            {"dials 0", 4, 0},
             {"dial", 1, 4}, {"dial dial", 1, 5}, {"dial -1", 1, 5}, {"dial 3", 2, 5}, {"dial 00000", 2, 5},
             {"dial 0 0", 1, 7}, {"dial 0 dial", 1, 7}, {"dial 0;", 1, 6}, {"dial 0 12345", 1, 7}, {"middle", 1, 6},
             {"middle 0", 1, 7}, {"middle()", 1, 7}, {"middle(,)", 1, 7}, {"middle(dial 0)", 1, 7}, {"middle(3)", 2, 7},
@@ -169,6 +172,17 @@ public final class TextFaultTest {
     private static void nestedTests(String open, String close) {
         law(open.repeat(5) + "late 1 dial 0" + close.repeat(5), 0, -1);
         law(open.repeat(5) + "late 1 late 1 dial 0" + close.repeat(5), 2, 5 * open.length() + 14);
+    }
+
+    /** That what stands deepest counts: the tests of these ask only of it. */
+    private static void deepestParts() {
+        LyingDials x = Kit.of("dial painted 0 0 0;dial painted 1 0 0;");
+        String[] laws = {"late 0 if month 0 then dial 0 else dial 1 end", "if dark dial 0 then dial 1 else dial 0 end",
+            "if not month 0 then dial 1 else dial 0 end", "if before(dial 0,dial 1) then dial 0 else dial 1 end"};
+        for (String text : laws) {
+            Kit.due("a deep law", 0, () -> Kit.law(x, "late 0 ".repeat(9) + text));
+            Kit.due("tells by its deepest part: " + text, 720, () -> x.lawful(0, 0));
+        }
     }
 
     /** Bytes behind the first n count for nothing, whatever they are. */
