@@ -661,7 +661,7 @@ public final class LyingDials {
         /** Seven angles round each of two that may be meant. */
         static final int MOST_MOMENTS = 14;
         private static final int WITHOUT_SWING = 120;
-        private static final int NO_ANGLE = Integer.MIN_VALUE;
+        private static final int NO_ANGLE = -100000;
         private static final int MOON_REACH = 360;
 
         int dials = 0;

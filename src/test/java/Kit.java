@@ -1,13 +1,20 @@
+import java.io.IOException;
+import java.nio.charset.StandardCharsets;
+import java.nio.file.Files;
+import java.nio.file.Path;
 import java.util.Objects;
 
-/** What the tests share: due answers, due exceptions, and texts put on the tape. */
+/** What the tests share: due answers, due exceptions, sentences of the document, and texts put on the tape. */
 final class Kit {
     interface Call {
         long answer();
     }
 
+    private static final Path DOCUMENT = Path.of("../shared/DOC.md");
+
     private static int wrong = 0;
     private static int asked = 0;
+    private static String document = null;
 
     private Kit() {
     }
@@ -53,6 +60,25 @@ final class Kit {
         }
     }
 
+    /** Which words of the document the lines behind it test: they must stand there, blanks and line ends alike. */
+    static void says(String words) {
+        if (document == null) {
+            document = readDocument();
+        }
+        asked++;
+        if (!document.contains(words)) {
+            fail("the document doesn't say: " + words);
+        }
+    }
+
+    private static String readDocument() {
+        try {
+            return Files.readString(DOCUMENT, StandardCharsets.UTF_8).replaceAll("\\s+", " ");
+        } catch (IOException e) {
+            return "";
+        }
+    }
+
     static void fail(String line) {
         wrong++;
         if (wrong <= 50) {
@@ -65,6 +91,15 @@ final class Kit {
         if (wrong != 0 || asked == 0) {
             System.exit(1);
         }
+    }
+
+    /** Of a row that names what is asked: all but its last number, which is due. */
+    static String asked(String name, int[] row) {
+        StringBuilder text = new StringBuilder(name).append('(');
+        for (int i = 0; i < row.length - 1; i++) {
+            text.append(i == 0 ? "" : ", ").append(row[i]);
+        }
+        return text.append(')').toString();
     }
 
     static int[] numbersOf(String text, int from) {
