@@ -663,6 +663,7 @@ public final class LyingDials {
         private static final int WITHOUT_SWING = 120;
         private static final int NO_ANGLE = -100000;
         private static final int MOON_REACH = 360;
+        private static final int MOON_AGES = 30;
 
         int dials = 0;
         int swing = WITHOUT_SWING;
@@ -725,12 +726,9 @@ public final class LyingDials {
             return grown[dial] != NONE && day >= grown[dial] && kinds[dial] != PAINTED;
         }
 
-        private static int ageOf(int day) {
-            return day % 30;
-        }
-
         private static boolean hasMoon(int day) {
-            return ageOf(day) >= 8 && ageOf(day) <= 22;
+            int age = day % MOON_AGES;
+            return age >= 8 && age <= 22;
         }
 
         int toldBy(int dial, int day, int minute, int turn, int tilt) {
@@ -786,7 +784,7 @@ public final class LyingDials {
 
         /** May be past the day's end. */
         private static int moonNoonOf(int day) {
-            return MIDDAY + 48 * ageOf(day);
+            return MIDDAY + 48 * (day % MOON_AGES);
         }
 
         /**

@@ -24,6 +24,7 @@ public final class CallEdgesTest {
     public static void main(String[] args) {
         noSuchArguments();
         aNewObject();
+        noneIsOneAnswer();
         aFullTape();
         bytesOfANumber();
         tapeOfAPort();
@@ -65,6 +66,7 @@ public final class CallEdgesTest {
             state.add(x.turn(dial, 20));
             state.add(x.turn(dial, 364));
             state.add(x.faults(dial, 0));
+            state.add(x.faults(dial, 0) == 0 ? 0 : x.faults(dial, 1));
         }
         state.add(x.days(0));
         state.add(x.days(1));
@@ -154,6 +156,18 @@ public final class CallEdgesTest {
         Kit.none("year", () -> x.year(0, 0, 0));
         Kit.none("takes", () -> x.takes(0, 0));
         Kit.same("none of these is refused", "[0, 120, 0, 0, 0, 0, 0, 0, 0, 0, 0, -1, 525600, 0]", stateOf(x));
+    }
+
+    private static void noneIsOneAnswer() {
+        Kit.says("The constants: `NONE = -1`: There is none; DARK.");
+        Kit.says("WHAT A DIAL TELLS; NONE: it is DARK.");
+        Kit.says("What the LAW tells in a MINUTE of a DAY; NONE: DARK.");
+        Kit.says("THE MIDDLE; NONE: DARK.");
+        Kit.same("NONE", -1, LyingDials.NONE);
+        LyingDials x = three();
+        Kit.due("tells", LyingDials.NONE, () -> x.tells(0, 0, 0));
+        Kit.due("lawful", LyingDials.NONE, () -> x.lawful(0, 0));
+        Kit.due("middle", LyingDials.NONE, () -> x.middle(7, 0, 0));
     }
 
     private static void aFullTape() {
@@ -260,7 +274,7 @@ public final class CallEdgesTest {
         }
         Kit.due("the same PORT", 0, () -> Kit.port(x, THREE));
         Kit.same("only STATUS is left",
-                "[3, 0, 0, 0, 0, 0, 0, 1, 4, 1, 2, -1, 5, 5, 5, 4961, 0, 0, 0, 4961, 0, 0, 0, 4961, 525600, 0]", stateOf(x));
+                "[3, 0, 0, 0, 0, 0, 0, 1, 4, 1, 2, -1, 5, 5, 5, 4961, -60, 0, 0, 0, 4961, -60, 0, 0, 0, 4961, -60, 525600, 0]", stateOf(x));
         Kit.same("no image", false, x.restore());
         Kit.illegal("no LAW", () -> x.lawful(0, 0));
         Kit.due("room for READINGS", 1, () -> x.read(0, 0, 0, 0));
@@ -450,11 +464,12 @@ public final class CallEdgesTest {
 
     private static void imageOfAllThatCanBe() {
         Kit.says("They are as the image again");
-        LyingDials x = Kit.of("dial bowl 0 0 0;".repeat(9));
+        LyingDials x = Kit.of("dial bowl 0 0 0;".repeat(9) + "limps 0 0 0 0 0 0 0 0 0 0 0 30;");
         for (int i = 0; i < 12; i++) {
             // Of each DIAL the same TURN is read each time, so that it fits.
             x.read(i % 9, i, 720 + i, 720 + i + i % 9);
         }
+        Kit.due("a TURN that fits", 8, () -> x.faults(8, 1));
         for (int i = 0; i < 9; i++) {
             x.see(i, i);
         }

@@ -12,6 +12,7 @@ public final class LawEdgesTest {
         eachByteAlone();
         eachByteBehindALaw();
         oneTimeAlone();
+        ifThenElse();
         dialNumbers();
         dialsOfAMiddle();
         firstThatIsNotDark();
@@ -99,6 +100,22 @@ public final class LawEdgesTest {
         falls("dial 0,dial 0", 1, 6);
         falls("month 0", 4, 0);
         falls("(dial 0)", 1, 0);
+    }
+
+    private static void ifThenElse() {
+        Kit.says("'if' TEST 'then' TIME 'else' TIME 'end'");
+        tells("if month 0 then dial 3 else dial 2 end", 30, 0, 480);
+        tells("if month 0 then dial 3 else dial 2 end", 31, 0, 960);
+        tells("if month 0 then if month 1 then dial 2 else dial 3 end else dial 0 end", 0, 0, 480);
+        tells("if month 0 then dial 0 else if month 1 then dial 2 else dial 3 end end", 364, 0, 480);
+        falls("if then dial 3 else dial 2 end", 4, 3);
+        falls("if month 0 dial 3 else dial 2 end", 1, 11);
+        falls("if month 0 then else dial 2 end", 4, 16);
+        falls("if month 0 then dial 3 dial 2 end", 1, 23);
+        falls("if month 0 then dial 3 end", 1, 23);
+        falls("if month 0 then dial 3 else end", 4, 28);
+        falls("if month 0 then dial 3 else dial 2", 1, 34);
+        falls("if month 0 then dial 3 else dial 2 end end", 1, 39);
     }
 
     private static void dialNumbers() {

@@ -125,6 +125,17 @@ public final class TellingEdgesTest {
             tells(x, new int[] {0, 364, minute, there && minute % 2 == 0 ? DARK : minute},
                     new int[] {0, 0, minute, there && minute % 2 == 1 ? DARK : minute});
         }
+        StringBuilder oneDay = new StringBuilder("swing 0;dial bowl 0 0 0;");
+        for (int i = 0; i < 20; i++) {
+            oneDay.append("cloud 5 ").append(500 + 2 * i).append(' ').append(500 + 2 * i).append(';');
+        }
+        LyingDials y = Kit.of(oneDay.toString());
+        for (int minute = 499; minute <= 540; minute++) {
+            boolean there = minute >= 500 && minute <= 538 && minute % 2 == 0;
+            tells(y, new int[] {0, 5, minute, there ? DARK : minute}, new int[] {0, 4, minute, minute},
+                    new int[] {0, 6, minute, minute});
+        }
+        Kit.due("20 MINUTES of that DAY", 721 - 20, () -> y.takes(0, 5) - y.takes(0, 6));
     }
 
     private static void grownOver() {
